@@ -165,7 +165,7 @@ public final class RiverSteamers {
         cargo.how = ABOARD;
         cargo.place = boat;
         carrier.load += cargo.weight;
-        return done(carrier.draughtWith(0));
+        return done(carrier.draught());
     }
 
     public int land(int bale) {
@@ -219,7 +219,7 @@ public final class RiverSteamers {
             return refused(WRONG_NUMBER);
         }
         Boat it = river.boats[boat];
-        if (it.how != AGROUND || it.draughtWith(0) > river.waterOn(it.place, river.today())) {
+        if (it.how != AGROUND || it.draught() > river.waterOn(it.place, river.today())) {
             return refused(NOT_SO);
         }
         river.comeTo(it, it.leftFrom);
@@ -343,7 +343,7 @@ public final class RiverSteamers {
             case 1: return it.place;
             case 2: return it.isUnderWay() ? it.until : 0;
             case 3: return it.load;
-            case 4: return it.draughtWith(0);
+            case 4: return it.draught();
             case 5: return it.cords;
             default: return NONE;
         }
@@ -387,7 +387,7 @@ public final class RiverSteamers {
             return NONE;
         }
         Boat it = river.boats[boat];
-        if (it.how != AT_LANDING || it.draughtWith(0) > water) {
+        if (it.how != AT_LANDING || it.draught() > water) {
             return NONE;
         }
         return bestSet(it, water, listBalesAt(it.place));
@@ -625,8 +625,8 @@ public final class RiverSteamers {
             return aUp == bUp ? NONE : aUp ? a : b;
         }
         if (how == 1) {
-            int draughtA = river.boats[a].draughtWith(0);
-            int draughtB = river.boats[b].draughtWith(0);
+            int draughtA = river.boats[a].draught();
+            int draughtB = river.boats[b].draught();
             return draughtA == draughtB ? NONE : draughtA < draughtB ? a : b;
         }
         return Math.max(a, b);
@@ -847,7 +847,7 @@ public final class RiverSteamers {
             if (!isStretch(stretch)) {
                 return 2;
             }
-            if (boat.words.isKnown(stretch) && boat.words.waters[stretch] < boat.draughtWith(0)) {
+            if (boat.words.isKnown(stretch) && boat.words.waters[stretch] < boat.draught()) {
                 return 3;
             }
             return boat.cords < longNow(stretch) ? 4 : 0;
@@ -859,7 +859,7 @@ public final class RiverSteamers {
             boat.words.learn(stretch, water, quarter);
             boat.leftFrom = boat.place;
             boat.place = stretch;
-            if (boat.draughtWith(0) > water) {
+            if (boat.draught() > water) {
                 boat.how = AGROUND;
                 return 0;
             }
@@ -887,7 +887,7 @@ public final class RiverSteamers {
         }
 
         private Boat carrierOf(Bale bale) {
-            return bale.how == ABOARD ? boats[bale.place] : null;
+            return bale.how == ABOARD && isBoat(bale.place) ? boats[bale.place] : null;
         }
 
         private int boatsAground() {
@@ -925,10 +925,6 @@ public final class RiverSteamers {
         private int depth = 0;
         private boolean lit = false;
         private final int[] shifts = new int[DAYS];
-
-        private Stretch() {
-            Arrays.fill(shifts, NO);
-        }
 
         private void begin(int newNumber, int newKind, int newLength, int newDepth) {
             number = newNumber;
@@ -1056,6 +1052,10 @@ public final class RiverSteamers {
 
         private int stretchToward(boolean down) {
             return down ? place : place - 1;
+        }
+
+        private int draught() {
+            return draughtWith(0);
         }
 
         private int draughtWith(int more) {

@@ -120,8 +120,8 @@ public final class RandomRunsTest {
             case 7: case 8: told("lade", x.lade(bale, b), m.lade(bale, b), bale, b); break;
             case 9: told("land", x.land(bale), m.land(bale), bale); break;
             case 10: if (below(4) == 0) told("lose", x.lose(bale), m.lose(bale), bale); break;
-            case 11: if (below(10) == 0) told("image", x.image(), m.image()); break;
-            default: if (below(10) == 0) told("back", x.back(), m.back());
+            case 11: if (below(3) == 0) told("image", x.image(), m.image()); break;
+            default: if (below(5) == 0) told("back", x.back(), m.back());
         }
     }
 
