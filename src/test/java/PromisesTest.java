@@ -186,6 +186,8 @@ public final class PromisesTest {
         no(2, x.boat(1, 5, 5, 5));
         no(1, x.boat(1, 31, 5, 5));
         due(x.count(1), 5);
+        done(x.go(1), 1);
+        due(x.count(7), 0);
         river("7 a new boat knows nothing", 0, 0);
         x.boat(0, 1, 1, 9);
         x.leave(0, true);
@@ -533,6 +535,7 @@ public final class PromisesTest {
         no(2, x.trip(0, 1, 1));
         no(1, x.trip(1, 1, 1));
         due(x.count(3), 6);
+        due(x.lights(), 3);
     }
 
     private static void promise18() {
@@ -1334,7 +1337,8 @@ public final class PromisesTest {
         done(x.forge(0, 7, 13), 3);
         no(11, x.forge(0, -4, -7));
         done(x.forge(0, -100, -98), 2);
-        done(x.forge(1, 100, 0), 100);
+        done(x.forge(1, 100, 100), 100);
+        done(x.forge(1, 99, -100), 99);
         done(x.forge(1, 0, 0), 0);
         no(13, x.forge(1, -1, 0));
         no(10, x.forge(2, 99, 0));
