@@ -1173,7 +1173,8 @@ public final class RiverSteamers {
     /** The cheapest way to buy wood at the landings on a way. */
     private static final class Wooding {
         private static final int LEVELS = MOST_CORDS + 1;
-        private static final int NO_WAY = Integer.MAX_VALUE;
+        // Above any cost: ten stretches take 24 cords at most, at 99 each.
+        private static final int NO_WAY = 1000000;
 
         private int steps = 0;
         private int tank = 0;
