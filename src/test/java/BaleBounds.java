@@ -192,7 +192,8 @@ final class BaleBounds extends Bench {
     // ---- land and lose ----
 
     static void landedElsewhereOrWhereItIsFor() {
-        says("A BALE aboard of a BOAT at a LANDING comes there; if it is for it, it is PAID: the LANDING. STATUS 1, 3.");
+        says("A BALE aboard of a BOAT at a LANDING comes there; if it is for it, it is PAID: the LANDING."
+            + " STATUS 1, 3.");
         river(REACH, REACH);
         boat(0, 1);
         x.bale(0, 2, 15, 7);

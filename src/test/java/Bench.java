@@ -22,6 +22,8 @@ abstract class Bench {
 
     /** The document from its terms on, each run of blanks and line ends as one blank. */
     private static final String document = read();
+    private static final String HEADINGS =
+        "## Promise \\d+: \\w+|`int \\w+\\(.*?\\)`:|```(text)?|==== \\d";
     private static final int MOST_LEFT_OUT = 20;
     private static final boolean[] held = new boolean[document.length()];
     private static String test = "";
@@ -133,14 +135,14 @@ abstract class Bench {
                 open.append(document.charAt(i));
                 continue;
             }
-            String words = open.toString().replaceAll("## Promise \\d+: \\w+|`int \\w+\\(.*?\\)`:|```(text)?|==== \\d", "");
-            if (words.strip().length() > MOST_LEFT_OUT) fault("no test quotes \"" + words.strip() + "\"");
+            String words = open.toString().replaceAll(HEADINGS, "").strip();
+            if (words.length() > MOST_LEFT_OUT) fault("no test quotes \"" + words + "\"");
             open.setLength(0);
         }
     }
 
     static void end() {
-        System.out.println(wrong == 0 ? "all boundaries are as the document has them" : wrong + " faults");
+        System.out.println(wrong == 0 ? "all answers are as the document has them" : wrong + " faults");
         if (wrong != 0) System.exit(1);
     }
 }

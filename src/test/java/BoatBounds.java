@@ -205,7 +205,8 @@ final class BoatBounds extends Bench {
     }
 
     static void theLaterWordGoesToTheBoat() {
-        says("When a BOAT comes to a LANDING, for each STRETCH: of its own WORD and the BOX's both have the one of the later QUARTER then");
+        says("When a BOAT comes to a LANDING, for each STRETCH: of its own WORD and the BOX's"
+            + " both have the one of the later QUARTER then");
         river(REACH, REACH);
         boat(0, 1);
         boat(0, 1);
@@ -562,7 +563,8 @@ final class BoatBounds extends Bench {
     }
 
     static void leavingTellsHowLong() {
-        says("`int leave(int boat, boolean down)`: LEAVING: how LONG it is UNDER WAY; 0: it is AGROUND. STATUS 1, 21 .. 24.");
+        says("`int leave(int boat, boolean down)`: LEAVING: how LONG it is UNDER WAY; 0: it is AGROUND."
+            + " STATUS 1, 21 .. 24.");
         x.stretch(REACH, 1, 10);
         x.stretch(CROSSING, 20, 10);
         boat(0, 1);

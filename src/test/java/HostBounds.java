@@ -149,7 +149,8 @@ final class HostBounds extends Bench {
     }
 
     static void bodiesOfReachAndBar() {
-        says("BODIES, each with its number: ```text REACH: 10 bear: x + d. 11 move: bear(x) * 2. 12 bar: x - n. 13 tell: move(x) ^ bar(x)."
+        says("BODIES, each with its number: ```text REACH: 10 bear: x + d. 11 move: bear(x) * 2. 12 bar: x - n."
+            + " 13 tell: move(x) ^ bar(x)."
             + " BAR: 20 bear: super.bear(x) - l. 21 tell: super.tell(x + 1).");
         allKinds();
         traced(REACH, BEAR, 10);
@@ -754,8 +755,8 @@ final class HostBounds extends Bench {
     }
 
     static void everyOtherCallSetsStatus() {
-        says("(stretch, gauge, shift, cold, light, boat, bale, lade, land, lose, leave, off, go, yard, wood, trip, rule,"
-            + " image, back, sheet, cell, none, gauges, act, forge)");
+        says("(stretch, gauge, shift, cold, light, boat, bale, lade, land, lose, leave, off, go, yard, wood, trip,"
+            + " rule, image, back, sheet, cell, none, gauges, act, forge)");
         river(BAR, CROSSING);
         setsStatus(() -> x.stretch(REACH, 4, 10));
         setsStatus(() -> x.gauge(0, 0));

@@ -115,6 +115,144 @@ final class ImageBounds extends Bench {
         });
     }
 
+    static void everyStretchIsKept() {
+        says(KEPT);
+        for (int k = 0; k < 10; k++) x.stretch(3, 1 + k, 10);
+        x.shift(4, 0, 7);
+        x.light(5, true);
+        x.image();
+        for (int k = 0; k < 10; k++) {
+            x.light(k, k != 5);
+            x.shift(k, 0, k - 10);
+            x.shift(k, 99, 5);
+            x.cold(k, true);
+        }
+        done(x.back(), 0);
+        for (int k = 0; k < 10; k++) {
+            due(x.stretchTold(k, 3), k == 5 ? 1 : 0);
+            due(x.stretchTold(k, 4), k == 4 ? 7 : 0);
+            due(x.water(k, 99), k == 4 ? 3 : 10);
+            done(x.cold(k, false), 0);
+        }
+    }
+
+    static void everyLandingIsKept() {
+        says(KEPT);
+        for (int k = 0; k < 10; k++) x.stretch(0, 1, 10);
+        boat(0, 1);
+        for (int l = 0; l <= 10; l++) x.yard(l, 10 + l);
+        x.image();
+        for (int l = 0; l <= 10; l++) x.yard(l, 50);
+        for (int l = 0; l < 10; l++) {
+            x.leave(0, DOWN);
+            x.go(1);
+            due(x.box(l + 1, l, 1), l);
+        }
+        x.leave(0, UP);
+        x.go(1);
+        for (int l = 9; l > 0; l--) {
+            x.leave(0, UP);
+            x.go(1);
+        }
+        due(x.box(0, 0, 1), 19);
+        done(x.back(), 0);
+        for (int l = 0; l <= 10; l++) {
+            for (int k = 0; k < 10; k++) due(x.box(l, k, 1), NO);
+            done(x.yard(l, 0), 10 + l);
+        }
+    }
+
+    static void everyBoatAndBaleIsKept() {
+        says(KEPT);
+        x.stretch(0, 4, 10);
+        for (int b = 0; b < 5; b++) boat(0, 1 + b);
+        for (int i = 0; i < 12; i++) x.bale(0, 1, 10 + i, 1);
+        for (int i = 0; i < 5; i++) x.lade(i, i);
+        x.image();
+        for (int i = 5; i < 10; i++) x.lade(i, i - 5);
+        for (int b = 0; b < 5; b++) x.leave(b, DOWN);
+        x.go(4);
+        for (int i = 0; i < 10; i++) x.land(i);
+        due(x.count(6), 10);
+        done(x.back(), 0);
+        due(x.count(6), 0);
+        for (int i = 0; i < 12; i++) {
+            due(x.baleTold(i, 0), i < 5 ? 1 : 0);
+            due(x.baleTold(i, 1), i < 5 ? i : 0);
+        }
+        for (int b = 0; b < 5; b++) {
+            due(x.boatTold(b, 0), 0);
+            due(x.boatTold(b, 1), 0);
+            due(x.boatTold(b, 3), 10 + b);
+            due(x.boatTold(b, 5), 99);
+            due(x.knows(b, 0, 0), NO);
+        }
+    }
+
+    static void wordsAreKeptWhole() {
+        says(KEPT);
+        river(0);
+        boat(0, 1);
+        x.leave(0, DOWN);
+        x.go(4);
+        x.image();
+        x.gauge(0, 5);
+        x.leave(0, UP);
+        x.go(4);
+        x.leave(0, DOWN);
+        x.go(4);
+        due(x.knows(0, 0, 0), 15);
+        due(x.box(1, 0, 0), 15);
+        done(x.back(), 4);
+        due(x.knows(0, 0, 0), 10);
+        due(x.knows(0, 0, 1), 0);
+        due(x.box(1, 0, 0), 10);
+        due(x.box(1, 0, 1), 0);
+        due(x.box(0, 0, 0), NO);
+    }
+
+    static void tillWhenABoatIsUnderWayIsKept() {
+        says(KEPT);
+        river(0, 0);
+        boat(0, 1);
+        x.leave(0, DOWN);
+        x.go(1);
+        x.image();
+        x.go(3);
+        x.leave(0, DOWN);
+        due(x.boatTold(0, 2), 8);
+        done(x.back(), 1);
+        due(x.boatTold(0, 0), 1);
+        due(x.boatTold(0, 1), 0);
+        due(x.boatTold(0, 2), 4);
+        x.go(2);
+        due(x.boatTold(0, 0), 1);
+        x.go(1);
+        due(x.boatTold(0, 0), 0);
+        due(x.boatTold(0, 1), 1);
+    }
+
+    static void whereABoatAgroundCameFromIsKept() {
+        says(KEPT);
+        river(1, 1);
+        boat(1, 11);
+        done(x.leave(0, DOWN), 0);
+        x.image();
+        x.shift(0, 0, -5);
+        x.shift(1, 0, -5);
+        done(x.off(0), 1);
+        done(x.leave(0, UP), 4);
+        x.go(4);
+        x.shift(0, 0, 0);
+        done(x.leave(0, DOWN), 0);
+        due(x.boatTold(0, 1), 0);
+        done(x.back(), 0);
+        due(x.boatTold(0, 0), 3);
+        due(x.boatTold(0, 1), 1);
+        x.shift(1, 0, -1);
+        done(x.off(0), 1);
+    }
+
     static void sheetsAreNotKept() {
         says(KEPT);
         Scene.MIDST.play(x);

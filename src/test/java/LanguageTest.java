@@ -55,10 +55,12 @@ public final class LanguageTest {
         need(has.equals(promised), "the face is " + has + ", promised is " + promised);
         for (Field f : c.getDeclaredFields()) {
             boolean constant = f.getName().equals("NONE") || f.getName().equals("NO");
-            need(Modifier.isPrivate(f.getModifiers()) != constant, "field " + f.getName() + " is not as the face has it");
+            need(Modifier.isPrivate(f.getModifiers()) != constant,
+                "field " + f.getName() + " is not as the face has it");
         }
         Constructor<?>[] all = c.getDeclaredConstructors();
-        need(all.length == 1 && Modifier.isPublic(all[0].getModifiers()), "the constructors are not as the face has them");
+        need(all.length == 1 && Modifier.isPublic(all[0].getModifiers()),
+            "the constructors are not as the face has them");
     }
 
     private static void members() {

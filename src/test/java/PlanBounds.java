@@ -66,6 +66,14 @@ final class PlanBounds extends Bench {
         prices(0, 1, 1);
         noWay(0, 0, 3);
         buys(0, 1, 3, 20, 10, 10);
+        reaches(1, 1);
+        x.boat(0, 1, 9, 2);
+        noWay(0, 0, 1);
+        prices(0, 1, 0);
+        noWay(0, 0, 2);
+        buys(0, 1, 2, 1, 1);
+        prices(1, 0, 0);
+        buys(0, 0, 2, 2, 2, 0);
     }
 
     static void nothingIsBoughtAtTheLastLanding() {
@@ -450,7 +458,8 @@ final class PlanBounds extends Bench {
     }
 
     static void theRuleWithTheLeastNumberThatTellsOne() {
-        says("Of two BOATS gives way who does so by the RULE with the least number that is in force, fits, and tells one");
+        says("Of two BOATS gives way who does so by the RULE with the least number that is in force,"
+            + " fits, and tells one");
         river(REACH, BAR);
         boat(0, 4);
         boat(0, 4);

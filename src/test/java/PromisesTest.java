@@ -1,50 +1,8 @@
 /** One method for each promise of ../shared/DOC.md: what is due, its edges, and what is refused. */
-public final class PromisesTest {
-    private static final int NO = -1000;
-    private static final int LEAST = Integer.MIN_VALUE;
-    private static final int MOST = Integer.MAX_VALUE;
-    private static int wrong = 0;
-    private static String part = "";
-    private static RiverSteamers x;
-
-    private static void due(int got, int want) {
-        if (got != want) {
-            wrong++;
-            StackTraceElement[] calls = new Throwable().getStackTrace();
-            int line = calls[calls.length - 2].getLineNumber();
-            System.out.println(part + ", line " + line + ": answered " + got + ", due is " + want);
-        }
-    }
-
-    /** A call that is done: its answer, and STATUS 0. */
-    private static void done(int got, int want) {
-        due(got, want);
-        due(x.status(), 0);
-    }
-
-    /** A call that is refused: -1, and its STATUS. */
-    private static void no(int status, int got) {
-        due(got, -1);
-        due(x.status(), status);
-    }
-
-    private static void fresh(String promise) {
-        part = promise;
-        x = new RiverSteamers();
-    }
-
-    /** Stretches of these kinds, each 4 long and 10 deep. */
-    private static void river(String promise, int... kinds) {
-        fresh(promise);
-        for (int i = 0; i < kinds.length; i++) due(x.stretch(kinds[i], 4, 10), i);
-    }
-
-    private static void go(int n) {
-        for (int left = n; left > 0; left -= 200) x.go(Math.min(left, 200));
-    }
-
-    private static void promise1() {
-        fresh("1 a new object");
+public final class PromisesTest extends Bench {
+    static void promise1() {
+        says("## Promise 1: A new object");
+        fresh();
         for (int what = 0; what <= 7; what++) due(x.count(what), 0);
         due(x.count(8), 1);
         due(x.count(9), 0);
@@ -63,8 +21,9 @@ public final class PromisesTest {
         due(RiverSteamers.NO, -1000);
     }
 
-    private static void promise2() {
-        fresh("2 stretch");
+    static void promise2() {
+        says("## Promise 2: stretch");
+        fresh();
         no(1, x.stretch(-1, 1, 0));
         no(1, x.stretch(6, 1, 0));
         no(1, x.stretch(0, 0, 0));
@@ -81,13 +40,15 @@ public final class PromisesTest {
         due(x.stretchTold(9, 0), 3);
         due(x.stretchTold(9, 1), 19);
         due(x.stretchTold(9, 2), 99);
-        fresh("2 stretch, the ends");
+        // stretch, the ends
+        fresh();
         done(x.stretch(5, 20, 99), 0);
         done(x.stretch(0, 1, 0), 1);
     }
 
-    private static void promise3() {
-        fresh("3 gauge");
+    static void promise3() {
+        says("## Promise 3: gauge");
+        fresh();
         done(x.gauge(0, -20), 1);
         done(x.gauge(99, 40), 2);
         done(x.gauge(0, 7), 2);
@@ -101,8 +62,9 @@ public final class PromisesTest {
         done(x.gauge(50, 0), 3);
     }
 
-    private static void promise4() {
-        river("4 shift", 0, 1, 2, 3, 4, 5);
+    static void promise4() {
+        says("## Promise 4: shift");
+        river(0, 1, 2, 3, 4, 5);
         done(x.shift(1, 0, 20), 1);
         done(x.shift(3, 99, -20), 1);
         no(3, x.shift(0, 0, 1));
@@ -133,8 +95,9 @@ public final class PromisesTest {
         due(x.water(1, 7), 10);
     }
 
-    private static void promise5() {
-        river("5 cold", 5, 0);
+    static void promise5() {
+        says("## Promise 5: cold");
+        river(5, 0);
         done(x.cold(0, false), 0);
         done(x.cold(0, true), 1);
         done(x.cold(0, true), 0);
@@ -149,8 +112,9 @@ public final class PromisesTest {
         no(1, x.cold(100, true));
     }
 
-    private static void promise6() {
-        river("6 light", 0, 1, 2, 3, 4, 5);
+    static void promise6() {
+        says("## Promise 6: light");
+        river(0, 1, 2, 3, 4, 5);
         due(x.stretchTold(3, 3), 0);
         done(x.light(3, false), 0);
         done(x.light(3, true), 1);
@@ -163,8 +127,9 @@ public final class PromisesTest {
         no(1, x.light(6, true));
     }
 
-    private static void promise7() {
-        river("7 boat", 0, 0);
+    static void promise7() {
+        says("## Promise 7: boat");
+        river(0, 0);
         no(1, x.boat(-1, 1, 1, 1));
         no(1, x.boat(3, 1, 1, 1));
         no(1, x.boat(0, 0, 1, 1));
@@ -188,7 +153,8 @@ public final class PromisesTest {
         due(x.count(1), 5);
         done(x.go(1), 1);
         due(x.count(7), 0);
-        river("7 a new boat knows nothing", 0, 0);
+        // a new boat knows nothing
+        river(0, 0);
         x.boat(0, 1, 1, 9);
         x.leave(0, true);
         x.go(4);
@@ -199,8 +165,9 @@ public final class PromisesTest {
         due(x.box(1, 0, 0), 10);
     }
 
-    private static void promise8() {
-        river("8 bale", 0, 0);
+    static void promise8() {
+        says("## Promise 8: bale");
+        river(0, 0);
         no(1, x.bale(-1, 0, 1, 0));
         no(1, x.bale(3, 0, 1, 0));
         no(1, x.bale(0, -1, 1, 0));
@@ -222,8 +189,9 @@ public final class PromisesTest {
         due(x.baleTold(0, 4), 999);
     }
 
-    private static void promise9() {
-        river("9 lade", 0, 0);
+    static void promise9() {
+        says("## Promise 9: lade");
+        river(0, 0);
         x.boat(0, 3, 39, 50);
         x.boat(1, 3, 500, 50);
         x.boat(0, 3, 500, 50);
@@ -251,7 +219,8 @@ public final class PromisesTest {
         no(3, x.lade(1, 1));
         done(x.leave(2, true), 4);
         no(3, x.lade(1, 2));
-        river("9 lade, what is paid, lost or of a boat aground", 1, 0);
+        // lade, what is paid, lost or of a boat aground
+        river(1, 0);
         x.boat(0, 20, 99, 50);
         x.bale(0, 1, 5, 5);
         x.bale(0, 1, 5, 5);
@@ -271,8 +240,9 @@ public final class PromisesTest {
         no(3, x.lade(1, 1));
     }
 
-    private static void promise10() {
-        river("10 land", 0, 0);
+    static void promise10() {
+        says("## Promise 10: land");
+        river(0, 0);
         x.boat(0, 3, 500, 50);
         x.bale(0, 2, 40, 7);
         x.bale(0, 1, 30, 11);
@@ -305,8 +275,9 @@ public final class PromisesTest {
         due(x.count(6), 18);
     }
 
-    private static void promise11() {
-        river("11 lose", 0, 0);
+    static void promise11() {
+        says("## Promise 11: lose");
+        river(0, 0);
         x.boat(0, 3, 500, 50);
         x.bale(0, 2, 40, 7);
         x.bale(0, 2, 25, 7);
@@ -329,8 +300,9 @@ public final class PromisesTest {
         due(x.count(6), 0);
     }
 
-    private static void promise12() {
-        river("12 leave", 0, 4, 3);
+    static void promise12() {
+        says("## Promise 12: leave");
+        river(0, 4, 3);
         x.boat(1, 10, 500, 20);
         no(1, x.leave(-1, true));
         no(1, x.leave(1, true));
@@ -358,7 +330,8 @@ public final class PromisesTest {
         due(x.boatTold(0, 1), 2);
         x.go(12);
         due(x.boatTold(0, 1), 2);
-        river("12 leave, aground", 1);
+        // leave, aground
+        river(1);
         x.boat(0, 11, 500, 4);
         done(x.leave(0, true), 0);
         due(x.boatTold(0, 0), 3);
@@ -371,7 +344,8 @@ public final class PromisesTest {
         x.gauge(0, 1);
         done(x.off(0), 0);
         no(23, x.leave(0, true));
-        river("12 leave, the words and the wood", 1);
+        // leave, the words and the wood
+        river(1);
         x.boat(0, 11, 500, 3);
         no(24, x.leave(0, true));
         due(x.knows(0, 0, 0), NO);
@@ -381,8 +355,9 @@ public final class PromisesTest {
         due(x.boatTold(1, 5), 0);
     }
 
-    private static void promise13() {
-        river("13 off", 1, 0);
+    static void promise13() {
+        says("## Promise 13: off");
+        river(1, 0);
         x.boat(1, 12, 500, 40);
         x.boat(0, 1, 500, 40);
         x.leave(1, true);
@@ -403,7 +378,8 @@ public final class PromisesTest {
         due(x.box(1, 0, 1), 100);
         due(x.box(1, 0, 0), 10);
         no(3, x.off(0));
-        river("13 off, while under way, and by water of today", 0, 1);
+        // off, while under way, and by water of today
+        river(0, 1);
         x.boat(0, 5, 500, 40);
         x.boat(1, 15, 500, 40);
         x.leave(0, true);
@@ -418,8 +394,9 @@ public final class PromisesTest {
         done(x.off(1), 1);
     }
 
-    private static void promise14() {
-        river("14 go", 0, 0);
+    static void promise14() {
+        says("## Promise 14: go");
+        river(0, 0);
         no(1, x.go(0));
         no(1, x.go(-5));
         no(1, x.go(201));
@@ -433,7 +410,8 @@ public final class PromisesTest {
         no(2, x.go(200));
         no(1, x.go(201));
         due(x.count(5), 9599);
-        river("14 go, boats come by their numbers", 0, 0);
+        // go, boats come by their numbers
+        river(0, 0);
         x.boat(2, 5, 500, 40);
         x.boat(0, 5, 500, 40);
         x.boat(1, 5, 500, 40);
@@ -453,8 +431,9 @@ public final class PromisesTest {
         due(x.knows(2, 0, 0), NO);
     }
 
-    private static void words() {
-        river("2 of the terms: words", 0, 0);
+    static void words() {
+        says("A WORD on a STRETCH is a WATER and the QUARTER in which it was seen.");
+        river(0, 0);
         x.boat(0, 5, 500, 40);
         x.boat(0, 5, 500, 40);
         x.leave(0, true);
@@ -486,8 +465,9 @@ public final class PromisesTest {
         due(x.knows(2, 0, 0), 14);
     }
 
-    private static void promise15() {
-        river("15 yard", 0);
+    static void promise15() {
+        says("## Promise 15: yard");
+        river(0);
         done(x.yard(0, 99), 0);
         done(x.yard(0, 0), 99);
         done(x.yard(0, 3), 0);
@@ -500,8 +480,9 @@ public final class PromisesTest {
         done(x.yard(0, 3), 3);
     }
 
-    private static void promise16() {
-        river("16 wood", 0);
+    static void promise16() {
+        says("## Promise 16: wood");
+        river(0);
         x.boat(0, 5, 500, 10);
         x.yard(1, 1);
         done(x.leave(0, true), 4);
@@ -522,8 +503,9 @@ public final class PromisesTest {
         due(x.boatTold(0, 5), 6);
     }
 
-    private static void promise17() {
-        river("17 trip", 3, 3);
+    static void promise17() {
+        says("## Promise 17: trip");
+        river(3, 3);
         no(1, x.trip(0, 0, 0));
         no(1, x.trip(-1, 0, 0));
         no(1, x.trip(0, 3, 0));
@@ -538,8 +520,9 @@ public final class PromisesTest {
         due(x.lights(), 3);
     }
 
-    private static void promise18() {
-        fresh("18 rule");
+    static void promise18() {
+        says("## Promise 18: rule");
+        fresh();
         no(1, x.rule(-1, 0, 0));
         no(1, x.rule(6, 0, 0));
         no(1, x.rule(0, -1, 0));
@@ -558,8 +541,10 @@ public final class PromisesTest {
         due(x.count(4), 8);
     }
 
-    private static void promise19and20() {
-        river("19 image, 20 back", 1, 3);
+    static void promise19and20() {
+        says("## Promise 19: image");
+        says("## Promise 20: back");
+        river(1, 3);
         no(3, x.back());
         x.boat(0, 4, 100, 30);
         x.bale(0, 1, 30, 8);
@@ -629,7 +614,8 @@ public final class PromisesTest {
         due(x.count(5), 14);
         done(x.image(), 1);
         no(2, x.back());
-        river("20 back: boats and what they know", 1, 1);
+        // back: boats and what they know
+        river(1, 1);
         x.boat(0, 10, 100, 30);
         x.boat(1, 11, 100, 30);
         x.leave(1, true);
@@ -661,7 +647,8 @@ public final class PromisesTest {
         done(x.off(1), 1);
         x.go(2);
         due(x.boatTold(0, 1), 1);
-        river("20 back: where a boat aground came from", 1, 1);
+        // back: where a boat aground came from
+        river(1, 1);
         x.boat(1, 11, 100, 30);
         x.leave(0, true);
         x.image();
@@ -678,15 +665,17 @@ public final class PromisesTest {
         due(x.boatTold(0, 1), 1);
         x.shift(1, 0, -5);
         done(x.off(0), 1);
-        fresh("20 back, refused before an image");
+        // back, refused before an image
+        fresh();
         for (int i = 0; i < 12; i++) no(3, x.back());
         x.image();
         for (int i = 0; i < 10; i++) done(x.back(), 0);
         no(2, x.back());
     }
 
-    private static void promise21() {
-        fresh("21 height");
+    static void promise21() {
+        says("## Promise 21: height");
+        fresh();
         due(x.height(-1), NO);
         due(x.height(100), NO);
         due(x.height(50), 0);
@@ -714,8 +703,9 @@ public final class PromisesTest {
         due(x.status(), 1);
     }
 
-    private static void promise22() {
-        fresh("22 stretchTold");
+    static void promise22() {
+        says("## Promise 22: stretchTold");
+        fresh();
         x.stretch(2, 7, 13);
         x.stretch(3, 5, 8);
         x.stretch(4, 6, 8);
@@ -759,8 +749,9 @@ public final class PromisesTest {
         due(x.stretchTold(1, 5), 13);
     }
 
-    private static void promise23() {
-        river("23 water", 0, 1, 2, 3, 4, 5);
+    static void promise23() {
+        says("## Promise 23: water");
+        river(0, 1, 2, 3, 4, 5);
         x.gauge(0, -20);
         x.cold(1, true);
         x.shift(1, 0, 3);
@@ -776,8 +767,9 @@ public final class PromisesTest {
         due(x.water(0, 100), NO);
     }
 
-    private static void promise24() {
-        river("24 boatTold", 0, 1);
+    static void promise24() {
+        says("## Promise 24: boatTold");
+        river(0, 1);
         x.boat(0, 4, 300, 9);
         x.bale(0, 1, 37, 1);
         x.lade(0, 0);
@@ -804,8 +796,9 @@ public final class PromisesTest {
         due(x.boatTold(1, 2), 0);
     }
 
-    private static void promise25() {
-        river("25 baleTold", 0, 0);
+    static void promise25() {
+        says("## Promise 25: baleTold");
+        river(0, 0);
         x.boat(0, 4, 300, 9);
         x.boat(0, 4, 300, 9);
         x.bale(0, 1, 37, 12);
@@ -829,8 +822,9 @@ public final class PromisesTest {
         due(x.status(), 0);
     }
 
-    private static void promise26() {
-        river("26 why", 1, 3);
+    static void promise26() {
+        says("## Promise 26: why");
+        river(1, 3);
         x.boat(0, 10, 300, 4);
         due(x.why(-1, true), -1);
         due(x.why(1, true), -1);
@@ -855,7 +849,8 @@ public final class PromisesTest {
         x.boat(2, 9, 300, 1);
         due(x.why(3, true), 2);
         due(x.why(3, false), 4);
-        river("26 why, the word against the draught", 0);
+        // why, the word against the draught
+        river(0);
         x.boat(0, 9, 300, 50);
         x.bale(0, 1, 20, 1);
         x.leave(0, true);
@@ -869,8 +864,10 @@ public final class PromisesTest {
         no(23, x.leave(0, true));
     }
 
-    private static void promise27and28() {
-        river("27 knows, 28 box", 0, 0);
+    static void promise27and28() {
+        says("## Promise 27: knows");
+        says("## Promise 28: box");
+        river(0, 0);
         x.boat(0, 9, 300, 50);
         x.gauge(0, -1);
         x.go(5);
@@ -903,8 +900,9 @@ public final class PromisesTest {
         due(x.knows(0, 0, 1), 9);
     }
 
-    private static void promise29() {
-        river("29 lading", 0, 0);
+    static void promise29() {
+        says("## Promise 29: lading");
+        river(0, 0);
         x.boat(0, 5, 60, 50);
         due(x.lading(0, 4), -1);
         due(x.lading(0, 5), 0);
@@ -937,7 +935,8 @@ public final class PromisesTest {
         due(x.lading(0, 99), -1);
         x.go(4);
         due(x.lading(0, 99), 2);
-        river("29 lading, like rates and weights: the least bits", 0);
+        // lading, like rates and weights: the least bits
+        river(0);
         x.boat(0, 1, 20, 5);
         x.bale(0, 1, 10, 5);
         x.bale(0, 1, 10, 5);
@@ -946,15 +945,18 @@ public final class PromisesTest {
         due(x.lading(0, 50), 3);
         x.lade(0, 0);
         due(x.lading(0, 50), 2);
-        river("29 lading, all twelve", 0);
+        // lading, all twelve
+        river(0);
         x.boat(0, 1, 999, 5);
         for (int i = 0; i < 12; i++) x.bale(0, 1, 80 + i, 1 + i);
         due(x.lading(0, 500), 4095 - 1);
         due(x.lading(0, 10), 1 << 11);
     }
 
-    private static void promise30and31() {
-        fresh("30 wooding, 31 bought");
+    static void promise30and31() {
+        says("## Promise 30: wooding");
+        says("## Promise 31: bought");
+        fresh();
         for (int i = 0; i < 4; i++) x.stretch(0, 10, 9);
         x.boat(2, 5, 50, 25);
         x.yard(0, 2);
@@ -981,7 +983,8 @@ public final class PromisesTest {
         due(x.wooding(0, 5, 5), -1);
         due(x.bought(1, 0, 1, 0), -1);
         due(x.bought(0, 5, 0, 0), -1);
-        fresh("31 bought, of like ones the one that buys less first");
+        // bought, of like ones the one that buys less first
+        fresh();
         for (int i = 0; i < 3; i++) x.stretch(0, 10, 9);
         x.boat(0, 5, 50, 30);
         for (int i = 0; i < 3; i++) x.yard(i, 4);
@@ -994,7 +997,8 @@ public final class PromisesTest {
         due(x.bought(0, 0, 3, 2), 10);
         x.yard(0, 0);
         due(x.wooding(0, 0, 3), -1);
-        fresh("30 wooding, how long: by daylight, today, within the tank");
+        // wooding, how long: by daylight, today, within the tank
+        fresh();
         x.stretch(3, 5, 9);
         x.stretch(4, 6, 9);
         x.stretch(2, 7, 9);
@@ -1015,8 +1019,9 @@ public final class PromisesTest {
         due(x.wooding(0, 3, 2), 4);
     }
 
-    private static void promise32() {
-        fresh("32 lights");
+    static void promise32() {
+        says("## Promise 32: lights");
+        fresh();
         for (int kind : new int[] {3, 0, 3, 1, 3, 3}) x.stretch(kind, 2, 9);
         due(x.lights(), 0);
         x.trip(0, 6, 4);
@@ -1034,7 +1039,8 @@ public final class PromisesTest {
         due(x.lights(), 0);
         x.trip(0, 6, 0);
         due(x.lights(), 1 + 32);
-        fresh("32 lights, one for two trips");
+        // lights, one for two trips
+        fresh();
         for (int i = 0; i < 10; i++) x.stretch(3, 2, 9);
         x.trip(0, 4, 3);
         x.trip(3, 8, 4);
@@ -1043,8 +1049,9 @@ public final class PromisesTest {
         due(x.lights(), 1023);
     }
 
-    private static void promise33() {
-        river("33 gives", 0, 1, 2, 3, 4, 5);
+    static void promise33() {
+        says("## Promise 33: gives");
+        river(0, 1, 2, 3, 4, 5);
         x.boat(0, 5, 500, 40);
         x.boat(6, 7, 500, 40);
         due(x.gives(0, 1, 0, true, false), -1);
@@ -1087,8 +1094,9 @@ public final class PromisesTest {
         due(x.gives(0, 1, 0, true, false), -1);
     }
 
-    private static void promise34() {
-        river("34 count", 0, 1);
+    static void promise34() {
+        says("## Promise 34: count");
+        river(0, 1);
         x.boat(0, 20, 99, 40);
         x.boat(0, 3, 99, 40);
         x.bale(0, 1, 1, 100);
@@ -1127,8 +1135,10 @@ public final class PromisesTest {
         due(x.trace(bodies.length), -1);
     }
 
-    private static void promise35and36() {
-        fresh("35 act, 36 trace");
+    static void promise35and36() {
+        says("## Promise 35: act");
+        says("## Promise 36: trace");
+        fresh();
         x.stretch(0, 3, 7);
         x.stretch(1, 4, 8);
         x.stretch(2, 5, 9);
@@ -1173,8 +1183,9 @@ public final class PromisesTest {
         due(x.trace(MOST), -1);
     }
 
-    private static void promise37() {
-        fresh("37 sheet");
+    static void promise37() {
+        says("## Promise 37: sheet");
+        fresh();
         no(1, x.sheet(-1, 0, 1));
         no(1, x.sheet(4, 0, 1));
         no(1, x.sheet(0, -2, 1));
@@ -1203,8 +1214,9 @@ public final class PromisesTest {
         due(x.gauges(0, 1, 0, 2), 2);
     }
 
-    private static void promise38() {
-        fresh("38 cell");
+    static void promise38() {
+        says("## Promise 38: cell");
+        fresh();
         x.sheet(0, 0, 3);
         x.sheet(1, 1, 3);
         x.sheet(2, 2, 3);
@@ -1242,8 +1254,9 @@ public final class PromisesTest {
         due(x.height(0), 10);
     }
 
-    private static void promise39() {
-        fresh("39 none");
+    static void promise39() {
+        says("## Promise 39: none");
+        fresh();
         x.sheet(0, 0, 3);
         x.sheet(1, 1, 3);
         x.sheet(2, 2, 3);
@@ -1260,8 +1273,9 @@ public final class PromisesTest {
         due(x.gauge(1, 0), 3);
     }
 
-    private static void promise40() {
-        fresh("40 gauges");
+    static void promise40() {
+        says("## Promise 40: gauges");
+        fresh();
         x.sheet(0, 2, 5);
         x.sheet(1, 1, 5);
         x.sheet(2, 2, 40);
@@ -1311,8 +1325,9 @@ public final class PromisesTest {
         done(x.gauges(30, 3, 0, 2), 46);
     }
 
-    private static void promise41() {
-        river("41 forge", 0, 1, 2, 3, 4, 5);
+    static void promise41() {
+        says("## Promise 41: forge");
+        river(0, 1, 2, 3, 4, 5);
         no(1, x.forge(-1, 0, 0));
         no(1, x.forge(7, 0, 0));
         for (int what = 0; what <= 6; what++) {
@@ -1393,8 +1408,9 @@ public final class PromisesTest {
         due(x.count(0), 6);
     }
 
-    private static void promise42() {
-        fresh("42 status");
+    static void promise42() {
+        says("## Promise 42: status");
+        fresh();
         due(x.status(), 0);
         no(1, x.go(0));
         due(x.status(), 1);
@@ -1424,47 +1440,8 @@ public final class PromisesTest {
         done(x.image(), 1);
     }
 
-    public static void main(String[] args) {
-        promise1();
-        promise2();
-        promise3();
-        promise4();
-        promise5();
-        promise6();
-        promise7();
-        promise8();
-        promise9();
-        promise10();
-        promise11();
-        promise12();
-        promise13();
-        promise14();
-        words();
-        promise15();
-        promise16();
-        promise17();
-        promise18();
-        promise19and20();
-        promise21();
-        promise22();
-        promise23();
-        promise24();
-        promise25();
-        promise26();
-        promise27and28();
-        promise29();
-        promise30and31();
-        promise32();
-        promise33();
-        promise34();
-        promise35and36();
-        promise37();
-        promise38();
-        promise39();
-        promise40();
-        promise41();
-        promise42();
-        System.out.println(wrong == 0 ? "all promises hold" : wrong + " answers are not as due");
-        if (wrong != 0) System.exit(1);
+    public static void main(String[] args) throws Exception {
+        runAll(PromisesTest.class);
+        end();
     }
 }

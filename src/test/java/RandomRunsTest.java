@@ -2,9 +2,10 @@
 public final class RandomRunsTest {
     private static final int CALLS = 512;
     private static long seed;
+    private static boolean edgy = false;
     private static int wrong = 0;
     private static StringBuilder told;
-    private static RiverSteamers x;
+    private static Counted x;
     private static PlainModel m;
 
     private static int below(int n) {
@@ -12,9 +13,9 @@ public final class RandomRunsTest {
         return (int) ((seed >>> 33) % n);
     }
 
-    /** Mostly a .. b, at times just or far outside. */
+    /** Mostly a .. b, at times just or far outside; in every fourth run about as often outside or at its ends. */
     private static int from(int a, int b) {
-        int chance = below(60);
+        int chance = below(edgy ? 14 : 60);
         if (chance == 0) return a - 1;
         if (chance == 1) return b + 1;
         if (chance == 2) return below(2) == 0 ? Integer.MIN_VALUE : Integer.MAX_VALUE;
@@ -189,8 +190,9 @@ public final class RandomRunsTest {
 
     private static void run(int number) {
         seed = number * 7919L + 17;
+        edgy = number % 4 == 3;
         told = new StringBuilder("run " + number + "\n");
-        x = new RiverSteamers();
+        x = new Counted();
         m = new PlainModel();
         int most = 1 + below(10);
         for (int made = 0; made < CALLS / 2 - 1;) {
@@ -208,7 +210,8 @@ public final class RandomRunsTest {
     public static void main(String[] args) {
         int runs = args.length > 0 ? Integer.parseInt(args[0]) : 3000;
         for (int i = 0; i < runs; i++) run(i);
-        System.out.println(wrong == 0 ? runs + " random runs are as the plain model" : wrong + " answers are not as the plain model");
+        System.out.println(wrong == 0 ? runs + " random runs are as the plain model"
+            : wrong + " answers are not as the plain model");
         if (wrong != 0) System.exit(1);
     }
 }

@@ -76,7 +76,8 @@ final class WaterBounds extends Bench {
     }
 
     static void kindsUnderOthers() {
-        says("1 BAR, under REACH. 2 BEND, under REACH. 3 CROSSING, under BAR. 4 LOCK, under REACH. 5 ICE, under REACH.");
+        says("1 BAR, under REACH. 2 BEND, under REACH. 3 CROSSING, under BAR. 4 LOCK, under REACH."
+            + " 5 ICE, under REACH.");
         river(REACH, BAR, BEND, CROSSING, LOCK, ICE);
         for (int kind = 0; kind <= 5; kind++) {
             for (int upper = 0; upper <= 5; upper++) {
@@ -534,7 +535,8 @@ final class WaterBounds extends Bench {
     }
 
     static void whatIsToldOfAStretch() {
-        says("Of a STRETCH: 0 KIND, 1 LENGTH, 2 DEPTH, 3 whether it is LIT (1, 0), 4 SHIFT today, 5 LONG now. NO: no such.");
+        says("Of a STRETCH: 0 KIND, 1 LENGTH, 2 DEPTH, 3 whether it is LIT (1, 0), 4 SHIFT today, 5 LONG now."
+            + " NO: no such.");
         for (int what = 0; what <= 5; what++) due(x.stretchTold(0, what), NO);
         x.stretch(REACH, 9, 8);
         x.stretch(CROSSING, 7, 6);
