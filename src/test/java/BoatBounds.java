@@ -207,44 +207,48 @@ final class BoatBounds extends Bench {
     static void theLaterWordGoesToTheBoat() {
         says("When a BOAT comes to a LANDING, for each STRETCH: of its own WORD and the BOX's"
             + " both have the one of the later QUARTER then");
-        river(REACH, REACH);
-        boat(0, 1);
-        boat(0, 1);
-        x.leave(0, DOWN);
-        x.go(1);
-        x.gauge(0, 5);
-        x.leave(1, DOWN);
-        x.go(4);
-        knows(0, 0, 10, 0);
-        knows(1, 0, 15, 1);
-        box(1, 0, 15, 1);
-        x.leave(0, DOWN);
-        x.go(4);
-        x.leave(0, UP);
-        x.go(4);
-        knows(0, 0, 15, 1);
-        box(1, 0, 15, 1);
-        box(2, 0, 10, 0);
+        for (int rise = -5; rise <= 5; rise += 5) {
+            river(REACH, REACH);
+            boat(0, 1);
+            boat(0, 1);
+            x.leave(0, DOWN);
+            x.go(1);
+            x.gauge(0, rise);
+            x.leave(1, DOWN);
+            x.go(4);
+            knows(0, 0, 10, 0);
+            knows(1, 0, 10 + rise, 1);
+            box(1, 0, 10 + rise, 1);
+            x.leave(0, DOWN);
+            x.go(4);
+            x.leave(0, UP);
+            x.go(4);
+            knows(0, 0, 10 + rise, 1);
+            box(1, 0, 10 + rise, 1);
+            box(2, 0, 10, 0);
+        }
     }
 
     static void theLaterWordGoesToTheBox() {
         says("of its own WORD and the BOX's both have the one of the later QUARTER then");
-        river(REACH);
-        boat(0, 1);
-        boat(1, 1);
-        x.leave(0, DOWN);
-        x.go(4);
-        box(1, 0, 10, 0);
-        x.gauge(0, 6);
-        x.leave(1, UP);
-        x.go(4);
-        x.gauge(0, 8);
-        x.leave(1, DOWN);
-        x.go(4);
-        box(1, 0, 18, 8);
-        knows(1, 0, 18, 8);
-        box(0, 0, 16, 4);
-        knows(0, 0, 10, 0);
+        for (int rise = -4; rise <= 4; rise += 4) {
+            river(REACH);
+            boat(0, 1);
+            boat(1, 1);
+            x.leave(0, DOWN);
+            x.go(4);
+            box(1, 0, 10, 0);
+            x.gauge(0, rise);
+            x.leave(1, UP);
+            x.go(4);
+            x.gauge(0, 2 * rise);
+            x.leave(1, DOWN);
+            x.go(4);
+            box(1, 0, 10 + 2 * rise, 8);
+            knows(1, 0, 10 + 2 * rise, 8);
+            box(0, 0, 10 + rise, 4);
+            knows(0, 0, 10, 0);
+        }
     }
 
     static void ofLikeWordsEachKeepsItsOwn() {

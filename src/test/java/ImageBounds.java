@@ -169,11 +169,12 @@ final class ImageBounds extends Bench {
         for (int i = 0; i < 12; i++) x.bale(0, 1, 10 + i, 1);
         for (int i = 0; i < 5; i++) x.lade(i, i);
         x.image();
-        for (int i = 5; i < 10; i++) x.lade(i, i - 5);
+        for (int i = 5; i < 12; i++) x.lade(i, i % 5);
         for (int b = 0; b < 5; b++) x.leave(b, DOWN);
         x.go(4);
-        for (int i = 0; i < 10; i++) x.land(i);
-        due(x.count(6), 10);
+        for (int i = 0; i < 11; i++) x.land(i);
+        x.lose(11);
+        due(x.count(6), 11);
         done(x.back(), 0);
         due(x.count(6), 0);
         for (int i = 0; i < 12; i++) {
@@ -209,6 +210,37 @@ final class ImageBounds extends Bench {
         due(x.box(1, 0, 0), 10);
         due(x.box(1, 0, 1), 0);
         due(x.box(0, 0, 0), NO);
+    }
+
+    /** The boat goes down all ten stretches and up again. */
+    private static void thereAndBack() {
+        for (int i = 0; i < 20; i++) {
+            x.leave(0, i < 10 ? DOWN : UP);
+            x.go(1);
+        }
+    }
+
+    static void wordsOnEveryStretchAreKept() {
+        says(KEPT);
+        for (int k = 0; k < 10; k++) x.stretch(0, 1, 10);
+        boat(0, 1);
+        thereAndBack();
+        x.image();
+        x.gauge(0, 5);
+        thereAndBack();
+        for (int k = 0; k < 10; k++) {
+            due(x.knows(0, k, 0), 15);
+            due(x.knows(0, k, 1), 39 - k);
+        }
+        done(x.back(), 20);
+        for (int k = 0; k < 10; k++) {
+            due(x.knows(0, k, 0), 10);
+            due(x.knows(0, k, 1), 19 - k);
+            due(x.box(0, k, 0), 10);
+            due(x.box(0, k, 1), 19 - k);
+            due(x.box(10, k, 0), 10);
+            due(x.box(10, k, 1), k);
+        }
     }
 
     static void tillWhenABoatIsUnderWayIsKept() {

@@ -43,6 +43,21 @@ final class PlanBounds extends Bench {
         buys(2, 0, 2, 60, 20, 0);
     }
 
+    static void aStretchFurtherOnIsMoreThanTheTank() {
+        says("The COST of WOODING. -1: there is none");
+        reaches(5, 11, 5);
+        x.boat(0, 1, 9, 10);
+        x.boat(0, 1, 9, 11);
+        prices(1, 1, 1, 1);
+        buys(0, 0, 1, 5, 5);
+        noWay(0, 0, 2);
+        noWay(0, 0, 3);
+        noWay(0, 3, 1);
+        noWay(0, 3, 0);
+        buys(1, 0, 3, 21, 5, 11, 5);
+        buys(1, 3, 0, 21, 5, 11, 5);
+    }
+
     static void itHasNoWoodAtFirst() {
         says("it having no WOOD at first");
         reaches(10);
