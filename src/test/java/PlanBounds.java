@@ -56,6 +56,11 @@ final class PlanBounds extends Bench {
         noWay(0, 3, 0);
         buys(1, 0, 3, 21, 5, 11, 5);
         buys(1, 3, 0, 21, 5, 11, 5);
+        prices(1, 99, 99, 1);
+        noWay(0, 0, 2);
+        noWay(0, 0, 3);
+        noWay(0, 3, 1);
+        noWay(0, 3, 0);
     }
 
     static void itHasNoWoodAtFirst() {
