@@ -732,7 +732,9 @@ public final class RiverSteamers {
             daysTold = other.daysTold;
             paidRates = other.paidRates;
             System.arraycopy(other.heights, 0, heights, 0, DAYS);
-            System.arraycopy(other.coldDays, 0, coldDays, 0, DAYS);
+            for (int i = 0; i < DAYS; i++) {
+                coldDays[i] = other.coldDays[i];
+            }
             copyThings(other);
         }
 
@@ -1271,7 +1273,7 @@ public final class RiverSteamers {
 
         private int begin(Stretch stretch, int act, int x) {
             bodyCount = 0;
-            return run(stretch, stretch.kind, act, x, 0);
+            return run(this, stretch, stretch.kind, act, x, 0);
         }
 
         private static int kindWithBody(int from, int act) {
@@ -1289,27 +1291,28 @@ public final class RiverSteamers {
             }
         }
 
-        private int run(Stretch it, int from, int act, int x, int deep) {
+        private static int run(Acts acts, Stretch it, int from, int act, int x, int deep) {
             int kind = kindWithBody(from, act);
             if (kind == NONE || deep > DEEPEST) {
                 return 0;
             }
             int body = BODIES[kind * COUNT + act];
             int above = KIND_ABOVE[kind];
-            note(body);
+            int next = deep + 1;
+            acts.note(body);
             switch (body) {
                 case 10: return x + it.depth;
-                case 11: return run(it, it.kind, BEAR, x, deep + 1) * 2;
+                case 11: return run(acts, it, it.kind, BEAR, x, next) * 2;
                 case 12: return x - it.number;
-                case 13: return run(it, it.kind, MOVE, x, deep + 1) ^ run(it, it.kind, TO_BAR, x, deep + 1);
-                case 20: return run(it, above, BEAR, x, deep + 1) - it.length;
-                case 21: return run(it, above, TELL, x + 1, deep + 1);
-                case 30: return run(it, above, MOVE, x, deep + 1) + run(it, it.kind, TO_BAR, it.length, deep + 1);
-                case 40: return run(it, above, TO_BAR, x, deep + 1) * 3;
-                case 41: return run(it, above, BEAR, x + it.number, deep + 1);
-                case 50: return run(it, above, MOVE, x, deep + 1) ^ it.depth;
-                case 51: return run(it, above, TO_BAR, x + it.length, deep + 1);
-                case 60: return run(it, it.kind, TO_BAR, x, deep + 1) - run(it, above, TELL, x, deep + 1);
+                case 13: return run(acts, it, it.kind, MOVE, x, next) ^ run(acts, it, it.kind, TO_BAR, x, next);
+                case 20: return run(acts, it, above, BEAR, x, next) - it.length;
+                case 21: return run(acts, it, above, TELL, x + 1, next);
+                case 30: return run(acts, it, above, MOVE, x, next) + run(acts, it, it.kind, TO_BAR, it.length, next);
+                case 40: return run(acts, it, above, TO_BAR, x, next) * 3;
+                case 41: return run(acts, it, above, BEAR, x + it.number, next);
+                case 50: return run(acts, it, above, MOVE, x, next) ^ it.depth;
+                case 51: return run(acts, it, above, TO_BAR, x + it.length, next);
+                case 60: return run(acts, it, it.kind, TO_BAR, x, next) - run(acts, it, above, TELL, x, next);
                 default: return 0;
             }
         }

@@ -89,7 +89,7 @@ public final class LanguageTest {
     }
 
     private static void words() throws Exception {
-        String bare = Files.readString(SOURCE).replaceAll("//.*", "").replaceAll("(?s)/\\*.*?\\*/", "");
+        String bare = bareSource();
         String[] forbidden = {
             "\\bthrow\\b", "\\bthrows\\b", "\\btry\\b", "\\bcatch\\b", "\\bsynchronized\\b", "\\bassert\\b",
             "->", "::", "\\bpackage\\b", "\\bprotected\\b", "\\bObject\\b", "\\bSystem\\.(?!arraycopy\\b)",
@@ -122,11 +122,48 @@ public final class LanguageTest {
         }
     }
 
+    private static String bareSource() throws Exception {
+        return Files.readString(SOURCE).replaceAll("//.*", "").replaceAll("(?s)/\\*.*?\\*/", "");
+    }
+
+    /** Rule 8 names, of methods that call themselves on the same object, the private static ones alone. */
+    private static void recursion() throws Exception {
+        Matcher m = Pattern.compile(
+            "(?ms)^( {4,8})((?:public|private)[^=;\\n]*?(\\w+)\\([^)]*\\)) \\{\\n(.*?)^\\1\\}").matcher(bareSource());
+        int methods = 0;
+        int callThemselves = 0;
+        while (m.find()) {
+            methods++;
+            boolean callsItself = Pattern.compile("(?<![.\\w])" + m.group(3) + "\\(").matcher(m.group(4)).find();
+            if (!callsItself) continue;
+            callThemselves++;
+            need(m.group(2).startsWith("private static "), m.group(2) + " calls itself, but is not private static");
+            need(m.group(2).contains("int deep"), m.group(2) + " calls itself and carries no depth");
+        }
+        need(methods > 100, "only " + methods + " methods were read");
+        need(callThemselves == 1, callThemselves + " methods call themselves, not the acts alone");
+    }
+
+    /** Rule 4 has System.arraycopy and Arrays.fill over arrays of numbers. */
+    private static void rowsOfNumbers() throws Exception {
+        String bare = bareSource();
+        Matcher m = Pattern.compile("(?:System\\.arraycopy|Arrays\\.\\w+)\\((?:\\w+\\.)*(\\w+),").matcher(bare);
+        int calls = 0;
+        while (m.find()) {
+            calls++;
+            boolean numbers = Pattern.compile("\\bint\\[\\] " + m.group(1) + "\\b").matcher(bare).find();
+            need(numbers, m.group() + " ..: " + m.group(1) + " is no row of numbers");
+        }
+        need(calls > 5, "only " + calls + " calls on rows were read");
+    }
+
     public static void main(String[] args) throws Exception {
         face();
         members();
         words();
         lengths();
+        recursion();
+        rowsOfNumbers();
         System.out.println(wrong == 0 ? "face and language are kept" : wrong + " rules are not kept");
         if (wrong != 0) System.exit(1);
     }
